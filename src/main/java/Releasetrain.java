@@ -623,29 +623,24 @@ public final class Releasetrain {
     }
 
     private String standingOf(Build build) {
-        switch (build.state) {
-            case DRAFT:
-                return "draft";
-            case WAITING:
-                return "waiting";
-            case REFUSED:
-                return "refused";
-            default:
-                return standingOfApproved(build);
+        if (build.state == DRAFT) {
+            return "draft";
         }
+        if (build.state == WAITING) {
+            return "waiting";
+        }
+        return build.state == REFUSED ? "refused" : standingOfApproved(build);
     }
 
     private String standingOfApproved(Build approved) {
-        switch (holdReason(approved)) {
-            case HELD_BY_REVIEW:
-                return "held by review";
-            case HELD_BY_CRASHES:
-                return "held by crashes";
-            case HELD_BY_RATINGS:
-                return "held by ratings";
-            default:
-                return "approved";
+        char reason = holdReason(approved);
+        if (reason == HELD_BY_REVIEW) {
+            return "held by review";
         }
+        if (reason == HELD_BY_CRASHES) {
+            return "held by crashes";
+        }
+        return reason == HELD_BY_RATINGS ? "held by ratings" : "approved";
     }
 
     // No call of the library that this file keeps to gives bits. A float stands in a double unchanged,

@@ -81,8 +81,10 @@ public final class ItemTest {
     private static void wrongQuestionsAreRefused() {
         Releasetrain store = new Releasetrain();
         store.addDevice(0, 0, 0);
-        Checks.due("owns without a build", false, store.owns(0, 0));
-        Checks.due("can use without a build", false, store.canUse(0, 7));
+        for (int item = 0; item < 8; item++) {
+            Checks.due("owns " + item + " without a build", false, store.owns(0, item));
+            Checks.due("can use " + item + " without a build", false, store.canUse(0, item));
+        }
         Checks.refused("owns(1, 8)", NoSuchElementException.class, () -> store.owns(1, 8));
         Checks.refused("owns(-1, 0)", NoSuchElementException.class, () -> store.owns(-1, 0));
         Checks.refused("canUse(1, 8)", NoSuchElementException.class, () -> store.canUse(1, 8));
@@ -98,6 +100,7 @@ public final class ItemTest {
         Releasetrain store = shop();
         Checks.refused("none owned", ArithmeticException.class, store::usedShare);
         Stores.updatedDevices(store, 2);
+        store.addDevice(0, 0, 0);
         store.buy(0, 0);
         store.buy(0, 3);
         store.buy(1, 7);
