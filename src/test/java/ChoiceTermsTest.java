@@ -21,6 +21,8 @@ public final class ChoiceTermsTest {
         noFixThatItCouldNotHave();
         updatesGoStepByStep();
         heldBuildsAreGivenToNobody();
+        fixesOfHeldBuildsAreGiven();
+        fixesOfLesserVersionsAreNotGiven();
         Checks.finish("ChoiceTermsTest");
     }
 
@@ -334,5 +336,35 @@ public final class ChoiceTermsTest {
         Checks.due("update", 1, store.update(0));
         store.setSize(99);
         Checks.due("it keeps a build that is held then", 1, store.buildOf(0));
+    }
+
+    /** What holds the mended build does not hold its fix, which is what the fix is for. */
+    private static void fixesOfHeldBuildsAreGiven() {
+        Releasetrain store = new Releasetrain();
+        Stores.rolledOut(store, 10, 100);
+        for (int i = 0; i < 3; i++) {
+            store.update(store.addDevice(0, 0, 97 + i));
+            Stores.crashWith(store, i, "a");
+        }
+        Stores.rolledOutFix(store, 0, 11, 1);
+        Checks.due("hold of the mended build", 'c', store.holdOf(0));
+        Checks.due("hold of the fix", '-', store.holdOf(1));
+        dueReach("the mended build", store, 0, 0);
+        dueReach("the fix", store, 1, 3);
+        Checks.due("update to the fix", 1, store.update(2));
+        Checks.due("the mended build is held still", 'c', store.holdOf(0));
+    }
+
+    /** A fix may have a lesser version than the build that it mends: a device could have it, and is not given it. */
+    private static void fixesOfLesserVersionsAreNotGiven() {
+        Releasetrain store = new Releasetrain();
+        Stores.rolledOut(store, 10, 100);
+        store.update(store.addDevice(0, 0, 99));
+        Stores.rolledOutFix(store, 0, 9, 1);
+        Checks.due("it could have the fix", true, store.couldHave(0, 1));
+        dueReach("the lesser fix", store, 1, 1);
+        Checks.refused("offered the lesser fix", IllegalStateException.class, () -> store.offered(0));
+        Stores.rolledOutFix(store, 0, 11, 1);
+        Checks.due("offered the greater fix", 2, store.offered(0));
     }
 }

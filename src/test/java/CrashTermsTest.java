@@ -20,6 +20,7 @@ public final class CrashTermsTest {
         crashesWithoutTextOfEveryDevice();
         worstGroupOfMany();
         buildsOfAGroupFromNoneToAll();
+        theLastCallsOfAnObject();
         Checks.finish("CrashTermsTest");
     }
 
@@ -274,5 +275,16 @@ public final class CrashTermsTest {
         }
         Stores.crashWith(store, 0, "b");
         Checks.due("build 9 alone", 512, store.buildsIn(1));
+    }
+
+    /** "An object is used for at most 512 calls": the last two are answered like all others. */
+    private static void theLastCallsOfAnObject() {
+        Releasetrain store = storeWithADevice();
+        for (int crash = 1; crash <= 252; crash++) {
+            store.type('a');
+            store.crash(0);
+        }
+        Checks.due("call 511", 252, store.crashesIn(0));
+        Checks.due("call 512", 252.0f, store.crashRate(0));
     }
 }

@@ -8,6 +8,7 @@ public final class ItemAndLineTermsTest {
         ownedWhateverBuildItHasLater();
         usedIfTheBuildSellsIt();
         ownersAreToldApart();
+        heldBuildsSellAndAreUsed();
         shareOfNone();
         shareFromNoneToAll();
         shareIsAFloat();
@@ -98,6 +99,17 @@ public final class ItemAndLineTermsTest {
                 Checks.due("device " + device + " owns " + item, item == device % 8, store.owns(device, item));
             }
         }
+    }
+
+    /** A device keeps a build that is held, so it goes on to buy and to use what that one sells. */
+    private static void heldBuildsSellAndAreUsed() {
+        Releasetrain store = shop(3, 1);
+        store.buy(0, 0);
+        store.setSize(1);
+        Checks.due("hold", 'v', store.holdOf(0));
+        Checks.due("bought of a held build", 2, store.buy(0, 1));
+        Checks.due("used with a held build", true, store.canUse(0, 0));
+        Checks.due("share with a held build", 1.0f, store.usedShare());
     }
 
     /** "if they own none" */
