@@ -1,8 +1,9 @@
 import java.util.List;
 
 /**
- * Each probe draws one part of a store's state out into the open; together they show all of it. The last
- * two change the store to do so, since some of the state is told by no question.
+ * Each probe draws one part of a store's state out into the open; together they show all of it. Those from
+ * QUEUE on change the store to do so, since some of the state is told by no question. QUEUE makes no call that
+ * could be refused ahead of its reviews: what such a call did to the queue would hide what the twins differ in.
  */
 enum Probe {
     DEVICES {
@@ -94,25 +95,38 @@ enum Probe {
         }
     },
 
-    REVIEWS {
+    QUEUE {
         @Override
         void put(Releasetrain store, Transcript told) {
-            for (int i = 0; i < 11; i++) {
-                int build = i;
-                told.call("submit", () -> store.submit(build));
-                told.call("appeal", () -> store.appeal(build));
-            }
-            boolean more = true;
-            while (more) {
-                told.call("nextInReview", store::nextInReview);
-                more = told.answered("review", store::review);
-            }
+            reviewAll(store, told);
+        }
+    },
+
+    APPROVALS {
+        @Override
+        void put(Releasetrain store, Transcript told) {
+            told.call("setSize", () -> store.setSize(500));
+            told.call("setBarred", () -> store.setBarred(0));
+            submitAll(store, told);
+            appealAll(store, told);
+            reviewAll(store, told);
             for (int i = 0; i < 11; i++) {
                 int build = i;
                 told.call("stage", () -> store.stage(build, 100, 0));
                 told.call("writeBuild", () -> store.writeBuild(build));
             }
             told.call("addFix", () -> store.addFix(0, 500, 1, 0));
+        }
+    },
+
+    APPEALS {
+        @Override
+        void put(Releasetrain store, Transcript told) {
+            told.call("setSize", () -> store.setSize(1));
+            submitAll(store, told);
+            reviewAll(store, told);
+            appealAll(store, told);
+            reviewAll(store, told);
         }
     },
 
@@ -147,6 +161,28 @@ enum Probe {
         Transcript told = new Transcript();
         put(store, told);
         return told.calls();
+    }
+
+    private static void submitAll(Releasetrain store, Transcript told) {
+        for (int i = 0; i < 11; i++) {
+            int build = i;
+            told.call("submit", () -> store.submit(build));
+        }
+    }
+
+    private static void appealAll(Releasetrain store, Transcript told) {
+        for (int i = 0; i < 11; i++) {
+            int build = i;
+            told.call("appeal", () -> store.appeal(build));
+        }
+    }
+
+    private static void reviewAll(Releasetrain store, Transcript told) {
+        boolean more = true;
+        while (more) {
+            told.call("nextInReview", store::nextInReview);
+            more = told.answered("review", store::review);
+        }
     }
 
     private static void tellStack(Releasetrain store, Transcript told, int group) {
